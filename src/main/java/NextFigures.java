@@ -430,6 +430,7 @@ public final class NextFigures {
         if (!isShop(shop) || !isDay(day) || !isSheet(k) || !isLane(lane) || n < 0 || n > CELLS) {
             return BAD;
         }
+        // without a day to read none is behind NOW, wherever the reading would begin
         if (n > 0 && day + n - 1 > rows.now) {
             return BAD;
         }
@@ -635,7 +636,7 @@ public final class NextFigures {
         }
 
         private boolean isFeast(int day) {
-            return isDay(day) && feasts[day];
+            return day >= 0 && day < DAYS && feasts[day];
         }
 
         private int gaps() {
@@ -949,6 +950,7 @@ public final class NextFigures {
             return Math.floorDiv(b * more + (10 - b) * slope, 10L);
         }
 
+        /** Gaps between figures can make SLOPE swing to some trillions: hence long. */
         private static int toldByStep(long level, long slope, int h) {
             long told = Math.floorDiv(level + h * slope, 100L);
             return (int) Math.max(0, Math.min(FIGURE, told));
@@ -1113,8 +1115,9 @@ public final class NextFigures {
         }
 
         /**
-         * One more costs over for each of the odds that is not above, and spares under for each that
-         * is: so the cost is least where first under, of both, are not above, or as near as may be.
+         * One more costs over for each of the odds that is not above the number, and spares under for
+         * each that is. So the least cost is at the first of the odds, in order, at which under parts
+         * of over and under are not above; beyond a bound it is at the bound.
          */
         private int leastCostly(int itsTold, int t, int u, int over, int under) {
             sortedSize = 0;

@@ -60,8 +60,9 @@ final class ModelTest {
     }
 
     private void run() {
-        int lastNow = new int[] {6, 20, 40, 63}[seed % 4];
+        int lastNow = new int[] {6, 20, 40, 63}[seed / 4 % 4];
         text();
+        begin(lastNow);
         while (calls < 512) {
             int dice = below(100);
             if (dice < 30) {
@@ -78,6 +79,33 @@ final class ModelTest {
         }
         for (int what = -1; what <= 9; what++) {
             same(x.count(what), y.count(what), "count", what);
+        }
+    }
+
+    /** Most runs begin with days that have passed, some with nearly as many tellings as there may be. */
+    private void begin(int lastNow) {
+        int days = seed % 5 == 0 ? 0 : below(lastNow);
+        for (int day = 0; day < days; day++) {
+            int v = value(day);
+            same(x.figure(0, day, v), y.figure(0, day, v), "figure", 0, day, v);
+            same(x.now(day + 1), y.now(day + 1), "now", day + 1);
+        }
+        if (seed % 7 == 0) {
+            manyTellings();
+        }
+    }
+
+    private void manyTellings() {
+        same(x.sheet(0, 2, 64), y.sheet(0, 2, 64), "sheet", 0, 2, 64);
+        for (int i = 0; i < 30; i++) {
+            int v = value(i);
+            same(x.lay(0, i, v), y.lay(0, i, v), "lay", 0, i, v);
+        }
+        int n = Math.min(y.now + 1, 29);
+        for (int times = 0; times < 12; times++) {
+            int shop = 1 + times % 3;
+            int f = times % 2;
+            same(x.read(shop, 0, 0, 2, f, n), y.read(shop, 0, 0, 2, f, n), "read", shop, 0, 0, 2, f, n);
         }
     }
 
@@ -196,21 +224,33 @@ final class ModelTest {
         int k = some(0, 3);
         int lane = below(3) > 0 && k >= 0 && k < 3 ? k : some(0, 2);
         int dice = below(8);
-        if (dice == 0) {
-            int n = below(3) == 0 ? some(0, 64) : below(20);
+        if (dice == 0 || (k >= 0 && k < 4 && y.sheets[k] == null && below(3) > 0)) {
+            int n = below(3) == 0 ? some(0, 64) : 5 + below(20) - below(3) * 3;
             same(x.sheet(k, lane, n), y.sheet(k, lane, n), "sheet", k, lane, n);
         } else if (dice < 5) {
             int i = below(10) == 0 ? some(0, 63) : below(16);
-            int v = below(12) == 0 ? some(-70000, 70000) : below(8) == 0 ? some(-9, 1001) : value(i);
+            int v = below(20) == 0 ? some(-70000, 70000) : below(8) == 0 ? some(-9, 1001) : value(i);
             same(x.lay(k, i, v), y.lay(k, i, v), "lay", k, i, v);
         } else {
             int shop = some(0, 3);
             int n = below(8) == 0 ? some(0, 64) : below(10);
             int day = below(4) == 0 ? some(0, 63) : Math.max(0, y.now + 1 - below(3) - n);
             int f = below(10) == 0 ? some(0, 64) : below(6);
+            if (k >= 0 && k < 4 && y.sheets[k] != null && below(4) > 0) {
+                lane = y.sheets[k] instanceof byte[] ? 0 : y.sheets[k] instanceof short[] ? 1 : 2;
+            }
             same(x.read(shop, day, k, lane, f, n), y.read(shop, day, k, lane, f, n), "read", shop, day, k, lane, f, n);
             same(x.torn(), y.torn(), "torn");
         }
+    }
+
+    private int joined(int otherwise) {
+        for (int k = 0; k < y.tellers.size(); k++) {
+            if (y.teller(k, 0) == 4) {
+                return k;
+            }
+        }
+        return otherwise;
     }
 
     private int teller() {
@@ -241,6 +281,10 @@ final class ModelTest {
             case 0, 1 -> same(x.tells(shop, k, d, h), y.tells(shop, k, d, h), "tells", shop, k, d, h);
             case 2 -> {
                 int i = teller();
+                if (below(6) > 0) {
+                    i = 0;
+                    k = joined(k);
+                }
                 same(x.weight(shop, k, i, d, h), y.weight(shop, k, i, d, h), "weight", shop, k, i, d, h);
             }
             case 3 -> same(x.miss(shop, k, h, t), y.miss(shop, k, h, t), "miss", shop, k, h, t);
