@@ -52,19 +52,6 @@ final class PromisesTest {
         due.end();
     }
 
-    /** Shop 0 with these figures, each told on its own day; NOW is the last of these. */
-    private static NextFigures daily(String text, int... figures) {
-        NextFigures x = new NextFigures();
-        Due.tell(x, text);
-        for (int day = 0; day < figures.length; day++) {
-            x.now(day);
-            if (figures[day] != NONE) {
-                x.figure(0, day, figures[day]);
-            }
-        }
-        return x;
-    }
-
     private static void newObject() {
         NextFigures x = new NextFigures();
         int[] counts = {0, 0, 0, 0, 0, 0, 4, 0, NONE};
@@ -272,15 +259,15 @@ final class PromisesTest {
     }
 
     private static void tellsSame() {
-        NextFigures x = daily("same 2;", 10, 20, 30, 40);
+        NextFigures x = Scene.daily("same 2;", 10, 20, 30, 40);
         due.is("same 2, ahead 1", x.tells(0, 0, 3, 1), 30);
         due.is("same 2, ahead 2", x.tells(0, 0, 3, 2), 40);
         due.is("same 2, ahead 3", x.tells(0, 0, 3, 3), 30);
         due.is("same 2, on an earlier day", x.tells(0, 0, 1, 1), 10);
         due.is("same 2, too early", x.tells(0, 0, 0, 1), NONE);
-        x = daily("same 2;", 10, 20, NONE, 40);
+        x = Scene.daily("same 2;", 10, 20, NONE, 40);
         due.is("same 2, over a gap", x.tells(0, 0, 3, 1), 10);
-        x = daily("same 2;", NONE, 20, NONE, 40);
+        x = Scene.daily("same 2;", NONE, 20, NONE, 40);
         due.is("same 2, all gaps", x.tells(0, 0, 3, 1), NONE);
         x.now(63);
         x.figure(0, 63, 8);
@@ -289,7 +276,7 @@ final class PromisesTest {
     }
 
     private static void tellsMean() {
-        NextFigures x = daily("mean 3;", 10, 20, NONE, 30, 41);
+        NextFigures x = Scene.daily("mean 3;", 10, 20, NONE, 30, 41);
         due.is("mean 3", x.tells(0, 0, 4, 1), 30);
         due.is("mean 3, any ahead", x.tells(0, 0, 4, 14), 30);
         due.is("mean 3 of just three", x.tells(0, 0, 3, 1), 20);
@@ -302,24 +289,24 @@ final class PromisesTest {
     }
 
     private static void tellsStep() {
-        NextFigures x = daily("step 5 5;step 10 10;step 0 10;", 100, 200);
+        NextFigures x = Scene.daily("step 5 5;step 10 10;step 0 10;", 100, 200);
         due.is("step 5 5", x.tells(0, 0, 1, 1), 175);
         due.is("step 5 5, ahead 14", x.tells(0, 0, 1, 14), 500);
         due.is("step 10 10", x.tells(0, 1, 1, 1), 300);
         due.is("step 10 10, 999 at most", x.tells(0, 1, 1, 14), 999);
         due.is("step 0 10 stays", x.tells(0, 2, 1, 9), 100);
         due.is("one figure is too few", x.tells(0, 0, 0, 1), NONE);
-        x = daily("step 5 5;", 200, 100, NONE);
+        x = Scene.daily("step 5 5;", 200, 100, NONE);
         due.is("step down", x.tells(0, 0, 1, 1), 125);
         due.is("step down, 0 at least", x.tells(0, 0, 1, 7), 0);
         due.is("over a gap", x.tells(0, 0, 2, 1), 100);
-        x = daily("step 10 10;", NONE, NONE, 10, NONE, 30);
+        x = Scene.daily("step 10 10;", NONE, NONE, 10, NONE, 30);
         due.is("from the first figure on", x.tells(0, 0, 4, 1), 50);
-        x = daily("step 3 7;", 1, 0);
+        x = Scene.daily("step 3 7;", 1, 0);
         // LEVEL 70, SLOPE 7 times -30 by 10 is -21; 49 by 100; -14 by 100 is below 0
         due.is("parts of one", x.tells(0, 0, 1, 1), 0);
         // LEVEL 270, SLOPE 135; then LEVEL 130, SLOPE -25 by 10, that is -3
-        x = daily("step 9 5;", 0, 0, 3, 1);
+        x = Scene.daily("step 9 5;", 0, 0, 3, 1);
         due.is("divided down below 0", x.tells(0, 0, 3, 14), 0);
         due.is("divided down below 0", x.tells(0, 0, 3, 10), 1);
     }
@@ -351,7 +338,7 @@ final class PromisesTest {
     }
 
     private static void tellsJoined() {
-        NextFigures x = daily("same 1;mean 2;joined 2;joined 1;", 10, 20, 30);
+        NextFigures x = Scene.daily("same 1;mean 2;joined 2;joined 1;", 10, 20, 30);
         // weights 90 and 62: 4250 by 152
         due.is("joined 2", x.tells(0, 2, 2, 1), 27);
         due.is("joined ones are not joined", x.tells(0, 3, 2, 1), 27);
@@ -359,12 +346,12 @@ final class PromisesTest {
         due.is("joined, weights 0", x.tells(0, 2, 0, 1), NONE);
         due.is("joined, none tells", x.tells(1, 2, 2, 1), NONE);
         due.is("joined, another ahead", x.tells(0, 2, 2, 2), 30);
-        x = daily("same 1;joined 1;mean 1;", 10, 10, 10);
+        x = Scene.daily("same 1;joined 1;mean 1;", 10, 10, 10);
         due.is("joined, those ahead alone", x.tells(0, 1, 2, 1), 10);
     }
 
     private static void tellsWrong() {
-        NextFigures x = daily("same 1;", 10, 20, 30);
+        NextFigures x = Scene.daily("same 1;", 10, 20, 30);
         int[][] wrong = {{-1, 0, 2, 1}, {4, 0, 2, 1}, {0, -1, 2, 1}, {0, 1, 2, 1}, {0, 0, -1, 1}, {0, 0, 3, 1},
             {0, 0, 2, 0}, {0, 0, 2, 15}, {0, 0, 64, 1}};
         for (int[] w : wrong) {
@@ -374,7 +361,7 @@ final class PromisesTest {
     }
 
     private static void weight() {
-        NextFigures x = daily("same 1;mean 2;joined 2;joined 1;", 10, 20, 30);
+        NextFigures x = Scene.daily("same 1;mean 2;joined 2;joined 1;", 10, 20, 30);
         due.is("weight of same", x.weight(0, 2, 0, 2, 1), 90);
         due.is("weight of mean", x.weight(0, 2, 1, 2, 1), 62);
         due.is("weight without misses", x.weight(0, 2, 0, 0, 1), 0);
@@ -391,15 +378,15 @@ final class PromisesTest {
         for (int[] w : wrong) {
             due.is("weight, wrong", x.weight(w[0], w[1], w[2], w[3], w[4]), BAD);
         }
-        x = daily("same 1;joined 30;", 10, 10, 10);
+        x = Scene.daily("same 1;joined 30;", 10, 10, 10);
         due.is("weight of no miss", x.weight(0, 1, 0, 2, 1), 1000);
         // of day 0 and 1 no figure, of day 3 a gap: 30 less 20 alone
-        x = daily("same 1;joined 1;", NONE, 20, 30, NONE);
+        x = Scene.daily("same 1;joined 1;", NONE, 20, 30, NONE);
         due.is("weight over a gap", x.weight(0, 1, 0, 3, 1), 90);
     }
 
     private static void miss() {
-        NextFigures x = daily("same 1;mean 2;", 10, 20, 35, NONE, 50);
+        NextFigures x = Scene.daily("same 1;mean 2;", 10, 20, 35, NONE, 50);
         due.is("miss", x.miss(0, 0, 1, 1), 10);
         due.is("miss, ahead 2", x.miss(0, 0, 2, 2), 25);
         due.is("miss, over a gap", x.miss(0, 0, 1, 4), 15);
@@ -420,7 +407,7 @@ final class PromisesTest {
     }
 
     private static void misses() {
-        NextFigures x = daily("same 1;", 10, 20, 30, 25);
+        NextFigures x = Scene.daily("same 1;", 10, 20, 30, 25);
         int[] want = {3, 25, 10, 1};
         int[] ofNone = {0, 0, NONE, NONE};
         for (int what = 0; what < 4; what++) {
@@ -435,13 +422,13 @@ final class PromisesTest {
         for (int[] w : wrong) {
             due.is("misses, wrong", x.misses(w[0], w[1], w[2], w[3], w[4], w[5]), BAD);
         }
-        x = daily("same 1;", 5, 5, 5);
+        x = Scene.daily("same 1;", 5, 5, 5);
         due.is("the greatest of 0", x.misses(0, 0, 1, 0, 2, 2), 0);
         due.is("the first day of 0", x.misses(0, 0, 1, 0, 2, 3), 1);
     }
 
     private static void best() {
-        NextFigures x = daily("same 1;mean 2;", 10, 20, 30, 25);
+        NextFigures x = Scene.daily("same 1;mean 2;", 10, 20, 30, 25);
         due.is("best, 15 by 2 below 25 by 3", x.best(0, 1, 0, 3), 1);
         due.is("best, of several the least", x.best(0, 1, 2, 3), 0);
         due.is("best, another has none", x.best(0, 1, 0, 1), 0);
@@ -456,7 +443,7 @@ final class PromisesTest {
     }
 
     private static void fit() {
-        NextFigures x = daily("", 10, 20, 30, 25);
+        NextFigures x = Scene.daily("", 10, 20, 30, 25);
         int[] same = {1, 3, 25};
         for (int what = 0; what < 3; what++) {
             due.is("fit same", x.fit(0, 0, 1, 0, 3, what), same[what]);
@@ -465,18 +452,18 @@ final class PromisesTest {
             due.is("fit step, none", x.fit(0, 2, 1, 0, 1, what), NONE);
         }
         due.is("fit step, days", x.fit(0, 2, 1, 0, 3, 1), 2);
-        x = daily("", 5, 5, 5, 5);
+        x = Scene.daily("", 5, 5, 5, 5);
         due.is("fit step, the least of all", x.fit(0, 2, 1, 0, 3, 0), 0);
         due.is("fit step, no miss", x.fit(0, 2, 1, 0, 3, 2), 0);
-        x = daily("", 10, 20, 30, 40, 50);
+        x = Scene.daily("", 10, 20, 30, 40, 50);
         due.is("fit step, a straight row", x.fit(0, 2, 1, 2, 4, 2), 0);
         due.is("fit step, a 10 and b 10", x.fit(0, 2, 1, 2, 4, 0), 110);
-        x = daily("", 1, 9, 1, 9, 1, 9, 1, 9, 1, 9, 1, 9);
+        x = Scene.daily("", 1, 9, 1, 9, 1, 9, 1, 9, 1, 9, 1, 9);
         due.is("fit same, every other day", x.fit(0, 0, 1, 2, 11, 0), 2);
         due.is("fit same, most days go first", x.fit(0, 0, 1, 0, 11, 0), 1);
         due.is("fit same, most days go first", x.fit(0, 0, 1, 0, 11, 1), 11);
         due.is("fit mean, most days", x.fit(0, 1, 1, 8, 11, 0), 2);
-        due.is("fit same, the greatest N", daily("", 1, 3, 7, 8, 10, 20, 30, 40, 1, 3).fit(0, 0, 1, 8, 9, 0), 8);
+        due.is("fit same, the greatest N", Scene.daily("", 1, 3, 7, 8, 10, 20, 30, 40, 1, 3).fit(0, 0, 1, 8, 9, 0), 8);
         int[][] wrong = {{-1, 0, 1, 0, 3, 0}, {4, 0, 1, 0, 3, 0}, {0, -1, 1, 0, 3, 0}, {0, 4, 1, 0, 3, 0},
             {0, 0, 0, 0, 3, 0}, {0, 0, 15, 0, 3, 0}, {0, 0, 1, -1, 3, 0}, {0, 0, 1, 0, 64, 0}, {0, 0, 1, 3, 2, 0},
             {0, 0, 1, 0, 3, -1}, {0, 0, 1, 0, 3, 3}};
@@ -486,7 +473,7 @@ final class PromisesTest {
     }
 
     private static void span() {
-        NextFigures x = daily("same 1;", 10, 20, 30, 25);
+        NextFigures x = Scene.daily("same 1;", 10, 20, 30, 25);
         int[][] want = {{1, 5}, {33, 5}, {34, 10}, {66, 10}, {67, 10}, {100, 10}};
         for (int[] w : want) {
             due.is("span for " + w[0], x.span(0, 0, 1, 0, 63, w[0]), w[1]);
@@ -501,7 +488,7 @@ final class PromisesTest {
     }
 
     private static void hold() {
-        NextFigures x = daily("same 1;", 10, 20, 30, 25, 25);
+        NextFigures x = Scene.daily("same 1;", 10, 20, 30, 25, 25);
         int[][] want = {{0, 1}, {4, 1}, {5, 2}, {9, 2}, {10, 4}, {999, 4}};
         for (int[] w : want) {
             due.is("hold " + w[0], x.hold(0, 0, 1, 0, 63, w[0]), w[1]);
@@ -515,7 +502,7 @@ final class PromisesTest {
     }
 
     private static void going() {
-        NextFigures x = daily("same 1;", 10, 20, 30, 25, 25, 50);
+        NextFigures x = Scene.daily("same 1;", 10, 20, 30, 25, 25, 50);
         due.is("going, days", x.going(0, 0, 1, 0, 5, 50, 0), 2);
         due.is("going, within", x.going(0, 0, 1, 0, 5, 50, 1), 1);
         due.is("going, from day 0 on", x.going(0, 0, 1, 5, 5, 50, 0), 1);
@@ -566,7 +553,7 @@ final class PromisesTest {
 
     private static void number() {
         // told 25; odds 35, 35, 20
-        NextFigures x = daily("same 1;mean 4;", 10, 20, 30, 25);
+        NextFigures x = Scene.daily("same 1;mean 4;", 10, 20, 30, 25);
         due.is("number, in the middle", x.number(0, 0, 1, 0, 3, 1, 1, 0), 35);
         due.is("number, its cost", x.number(0, 0, 1, 0, 3, 1, 1, 1), 15);
         due.is("number, of several the least", x.number(0, 0, 1, 0, 3, 2, 1, 0), 20);
@@ -578,10 +565,10 @@ final class PromisesTest {
         due.is("number, no odds", x.number(0, 1, 1, 0, 3, 1, 1, 0), NONE);
         due.is("number, nothing told", x.number(1, 0, 1, 0, 3, 1, 1, 0), NONE);
         // told 5; the odds are 900 less
-        x = daily("same 1;", 905, 5);
+        x = Scene.daily("same 1;", 905, 5);
         due.is("number, 0 at least", x.number(0, 0, 1, 0, 1, 3, 2, 0), 0);
         due.is("number, 0 at least", x.number(0, 0, 1, 0, 1, 3, 2, 1), 3 * 895);
-        x = daily("same 1;", 5, 905);
+        x = Scene.daily("same 1;", 5, 905);
         due.is("number, 999 at most", x.number(0, 0, 1, 0, 1, 3, 2, 0), 999);
         due.is("number, 999 at most", x.number(0, 0, 1, 0, 1, 3, 2, 1), 2 * 806);
         int[][] wrong = {{-1, 0, 1, 0, 1, 1, 1, 0}, {4, 0, 1, 0, 1, 1, 1, 0}, {0, 1, 1, 0, 1, 1, 1, 0},
@@ -594,7 +581,7 @@ final class PromisesTest {
     }
 
     private static void worth() {
-        NextFigures x = daily("same 1;", 10, 20, 30, 25);
+        NextFigures x = Scene.daily("same 1;", 10, 20, 30, 25);
         due.is("worth, no deeds", x.worth(0, 0, 1, 0, 3), FAR_NONE);
         x.mark(1, 0, true);
         due.is("worth, no miss", x.worth(0, 0, 1, 0, 3), FAR_NONE);
@@ -613,7 +600,7 @@ final class PromisesTest {
     }
 
     private static void dealt() {
-        NextFigures x = daily("same 1;", 10, 20, 30, 25);
+        NextFigures x = Scene.daily("same 1;", 10, 20, 30, 25);
         int[] ofNone = {NONE, 1, 3, 0};
         int[] ofOne = {2, 3, 3, 1};
         int[] ofTwo = {3, 3, 3, 2};
@@ -643,7 +630,7 @@ final class PromisesTest {
         for (int day = 0; day < 18; day++) {
             figures[day] = day * day;
         }
-        NextFigures x = daily("same 1;", figures);
+        NextFigures x = Scene.daily("same 1;", figures);
         for (int day = 9; day <= 16; day++) {
             x.mark(1, day, true);
         }
@@ -658,14 +645,14 @@ final class PromisesTest {
     }
 
     private static void change() {
-        due.is("change", daily("", 1, 1, 5, 5).change(0, 0, 3), 2);
-        due.is("change, behind t", daily("", 1, 1, 5, 5, 9).change(0, 1, 4), 2);
-        due.is("change, of several the least", daily("", 4, 4, 4, 4).change(0, 0, 3), 1);
-        due.is("change, as far as u", daily("", 4, 4, 4, 9).change(0, 0, 63), 3);
-        due.is("change over gaps", daily("", 1, NONE, NONE, 9, NONE).change(0, 0, 4), 1);
+        due.is("change", Scene.daily("", 1, 1, 5, 5).change(0, 0, 3), 2);
+        due.is("change, behind t", Scene.daily("", 1, 1, 5, 5, 9).change(0, 1, 4), 2);
+        due.is("change, of several the least", Scene.daily("", 4, 4, 4, 4).change(0, 0, 3), 1);
+        due.is("change, as far as u", Scene.daily("", 4, 4, 4, 9).change(0, 0, 63), 3);
+        due.is("change over gaps", Scene.daily("", 1, NONE, NONE, 9, NONE).change(0, 0, 4), 1);
         // the sum is 28 by 15 with day 3, and 2 with day 4
-        due.is("change, exactly", daily("", 0, 1, 0, 1, 2, 1, 2, 1).change(0, 0, 7), 3);
-        NextFigures x = daily("", 1, 1, 5, 5);
+        due.is("change, exactly", Scene.daily("", 0, 1, 0, 1, 2, 1, 2, 1).change(0, 0, 7), 3);
+        NextFigures x = Scene.daily("", 1, 1, 5, 5);
         due.is("change, one day", x.change(0, 2, 2), NONE);
         due.is("change, one figure", x.change(0, 3, 63), NONE);
         due.is("change, no figure", x.change(1, 0, 63), NONE);
@@ -679,7 +666,7 @@ final class PromisesTest {
     }
 
     private static void note() {
-        NextFigures x = daily("same 1;mean 3;", 10, 20);
+        NextFigures x = Scene.daily("same 1;mean 3;", 10, 20);
         due.is("note", x.note(0, 0, 1, 0), 0);
         due.is("note, nothing told", x.note(0, 1, 1, 0), NONE);
         due.is("note, nothing told", x.note(1, 0, 1, 0), NONE);
@@ -699,7 +686,7 @@ final class PromisesTest {
     }
 
     private static void noteOf() {
-        NextFigures x = daily("same 1;mean 1;", 10, 20);
+        NextFigures x = Scene.daily("same 1;mean 1;", 10, 20);
         x.note(0, 1, 2, 5);
         int[] first = {0, 1, 1, 3, 20, 5, NONE, NONE, 0};
         for (int what = 0; what < 9; what++) {
@@ -726,7 +713,7 @@ final class PromisesTest {
         due.is("noteOf, wrong", x.noteOf(1, 0), BAD);
         due.is("noteOf, wrong", x.noteOf(0, -1), BAD);
         due.is("noteOf, wrong", x.noteOf(0, 9), BAD);
-        x = daily("same 1;", 10);
+        x = Scene.daily("same 1;", 10);
         x.now(63);
         x.figure(0, 63, 4);
         x.note(0, 0, 14, 9);
@@ -735,7 +722,7 @@ final class PromisesTest {
     }
 
     private static void acted() {
-        NextFigures x = daily("same 1;", 10);
+        NextFigures x = Scene.daily("same 1;", 10);
         x.note(0, 0, 1, 0);
         x.note(0, 0, 1, 0);
         due.is("acted, none", x.acted(2), BAD);
@@ -752,7 +739,7 @@ final class PromisesTest {
     }
 
     private static void notes() {
-        NextFigures x = daily("same 1;", 10);
+        NextFigures x = Scene.daily("same 1;", 10);
         x.note(0, 0, 1, 2);
         x.note(0, 0, 1, 1);
         x.note(0, 0, 1, 2);
@@ -916,7 +903,7 @@ final class PromisesTest {
     }
 
     private static void count() {
-        NextFigures x = daily("same 1;mean 2;", 10, 20, NONE, 30);
+        NextFigures x = Scene.daily("same 1;mean 2;", 10, 20, NONE, 30);
         x.figure(1, 0, NONE);
         x.figure(2, 0, 8);
         x.mark(0, 5, true);
