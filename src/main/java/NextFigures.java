@@ -321,7 +321,7 @@ public final class NextFigures {
             return NONE;
         }
         int least = what == 0 ? play.deedSum : FAR_BAD;
-        return play.waysFrom(0, play.deedCount, least);
+        return Play.waysFrom(play.choice, play.missed, 0, play.deedCount, least);
     }
 
     public int change(int shop, int t, int u) {
@@ -1156,15 +1156,16 @@ public final class NextFigures {
             }
         }
 
-        /** In how many ways so many of the days from the i-th on sum to at least the least. */
-        private int waysFrom(int i, int many, int least) {
+        /** In how many ways so many of the first size ones, from the i-th on, sum to at least the least. */
+        private static int waysFrom(int[] ones, int size, int i, int many, int least) {
             if (many == 0) {
                 return least <= 0 ? 1 : 0;
             }
-            if (i < 0 || i >= CHOICE || missed - i < many) {
+            if (i < 0 || i >= CHOICE || i >= ones.length || size - i < many) {
                 return 0;
             }
-            return waysFrom(i + 1, many - 1, least - choice[i]) + waysFrom(i + 1, many, least);
+            return waysFrom(ones, size, i + 1, many - 1, least - ones[i])
+                + waysFrom(ones, size, i + 1, many, least);
         }
     }
 
